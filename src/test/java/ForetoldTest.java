@@ -20,6 +20,7 @@ public final class ForetoldTest {
         prowl();
         drawn();
         nothingChanges();
+        behindALargerHouse();
         withoutAHouse();
         CHECK.end("ForetoldTest");
     }
@@ -35,6 +36,7 @@ public final class ForetoldTest {
             CHECK.due("ahead(1, " + n + ", 1)", x.ahead(1, n, 1), hunger[n]);
             CHECK.due("whose(0, " + n + ")", x.whose(0, n), owner[n]);
         }
+        CHECK.due("whose(0, 0) behind another look", x.whose(0, 0), 1);
         CHECK.due("ahead(2, 60, 1)", x.ahead(2, 60, 1), 20);
         CHECK.due("ahead(0, 60, 0)", x.ahead(0, 60, 0), 98);
         CHECK.due("whose(1, 60)", x.whose(1, 60), 0);
@@ -130,6 +132,17 @@ public final class ForetoldTest {
         CHECK.due("sales(1), all bound", x.sales(1), NONE);
         CHECK.due("sales(2)", x.sales(2), BAD);
         CHECK.due("sales(-1)", x.sales(-1), BAD);
+        SoupRights toTheFirst = Check.house("h3,0;h0,9;h0,0;n8,1,1;n1,0,0;n1,0,0;n1,0,0;n1,0,0;n1,0,0;n8,1,1;");
+        CHECK.due("sales(0) to the first heir", toTheFirst.sales(0), 2);
+        CHECK.due("sales(1) to the first heir", toTheFirst.sales(1), 0);
+        CHECK.due("bonds(1, 1) of the first right and the last", toTheFirst.bonds(1, 1), 65);
+        CHECK.due("barter(2, 0) to the first heir", toTheFirst.barter(2, 0), 16);
+        CHECK.due("barter(2, 1) to the first heir", toTheFirst.barter(2, 1), 0);
+        toTheFirst.sell(0, 0, 1);
+        CHECK.due("sales(1), one sold", toTheFirst.sales(1), 60);
+        toTheFirst.sell(6, 0, 1);
+        CHECK.due("sales(1), both sold", toTheFirst.sales(1), NONE);
+        CHECK.due("claims(), both sold", toTheFirst.claims(), 65);
         CHECK.due("less than to its OWNER", Check.house("h0,0;h5,9;n8,1,0;").surplus(0, 1), 992);
     }
 
@@ -175,6 +188,12 @@ public final class ForetoldTest {
         barter("h0,9;h5,0;h5,0;n8,1,0;n8,1,0;n8,1,0;", 3, 24, 1);
         barter("h0,9;h1,0;h1,0;n8,1,0;n8,1,0;n8,1,0;", 2, 16, 1);
         barter("h0,9;h1,0;h1,0;n8,1,0;n8,1,0;n8,1,0;", 3, NONE, NONE);
+        // what a row that was tried ahead brought its seller is gone again
+        barter("h0,9;h0,5;h1,0;n3,1,0;n8,1,0;n8,1,1;", 2, NONE, NONE);
+        barter("h0,9;h0,5;h2,0;n3,1,0;n8,1,0;n8,1,1;", 2, 11, 2);
+        barter("h0,9;h0,5;h4,0;n6,1,1;n8,1,0;n8,1,0;", 2, 16, 12);
+        barter("h0,9;h0,5;h4,0;n6,1,1;n8,1,0;n8,1,0;", 3, 21, 2);
+        barter("h0,20;h0,5;h1,4;n5,1,1;n9,1,0;n9,1,0;", 2, 5, 2);
         SoupRights x = Check.house("h0,9;h5,0;h5,0;n8,1,0;n3,1,0;");
         x.bind(0, 1);
         CHECK.due("barter(1, 0), one bound", x.barter(1, 0), 3);
@@ -223,6 +242,15 @@ public final class ForetoldTest {
             CHECK.due("two rights, whatSold(5, " + 2 * i + ", 0)", two.whatSold(5, 2 * i, 0), ways[i]);
             CHECK.due("two rights, whatSold(5, " + 2 * i + ", 1)", two.whatSold(5, 2 * i, 1), first[i]);
         }
+
+        SoupRights toTheFirst = Check.house("h9,0;h0,9;n1,0,0;n8,1,1;");
+        Check.row(toTheFirst, 1, 0, 8, 1, 8, 2, 1, 8);
+        CHECK.due("to the first heir for 1, whatSold(1, 0, 1)", toTheFirst.whatSold(1, 0, 1), 10);
+        CHECK.due("to the first heir for 1, whatSold(1, 0, 0)", toTheFirst.whatSold(1, 0, 0), 1);
+        CHECK.due("where one came too many", toTheFirst.whatSold(1, 2, 0), 0);
+        CHECK.due("to the first heir for 8", toTheFirst.whatSold(1, 4, 1), 10);
+        Check.row(two, 6, 2, 4, 56);
+        CHECK.due("where the first heir's are too few", two.whatSold(6, 0, 0), 0);
 
         SoupRights rich = Check.house("h60,9;h60,0;h60,0;n8,1,0;");
         rich.give(2, 0, 39);
@@ -378,6 +406,33 @@ public final class ForetoldTest {
         }
         CHECK.same("what is seen behind what is foretold", Check.seen(x), before);
         CHECK.due("undo() behind it", x.undo(), 1);
+    }
+
+    /** Of a larger house nothing is left when a smaller one is read. */
+    private static void behindALargerHouse() {
+        SoupRights x = Check.house("h1,9;h1,20;h60,0;n1,0,0;f20,0,0;n20,9,0;");
+        x.richest(0);
+        Check.read(x, "h3,9;h2,20;n1,60,0;");
+        Check.row(x, 0, 0, 4, 2, 59);
+        CHECK.due("richest(0)", x.richest(0), 0);
+        CHECK.due("ahead(0, 1, 0)", x.ahead(0, 1, 0), 2);
+        CHECK.due("ahead(0, 2, 0)", x.ahead(0, 2, 0), 1);
+        CHECK.due("heir(0, 2)", x.heir(0, 2), 1);
+        CHECK.due("claims()", x.claims(), 0);
+        CHECK.due("count(4)", x.count(4), 5);
+        CHECK.due("sales(0)", x.sales(0), 0);
+        CHECK.due("sales(1)", x.sales(1), NONE);
+        CHECK.due("bonds(0, 1)", x.bonds(0, 1), 0);
+        CHECK.due("barter(1, 0)", x.barter(1, 0), NONE);
+        CHECK.due("whatSold(0, 0, 0)", x.whatSold(0, 0, 0), 0);
+        Check.read(x, "h3,9;h2,20;h60,0;n9,1,0;");
+        x.richest(0);
+        Check.read(x, "h3,9;h2,20;n9,1,0;");
+        CHECK.due("sales(0) of a third one", x.sales(0), 0);
+        CHECK.due("sales(1) of a third one", x.sales(1), NONE);
+        CHECK.due("barter(1, 0) of a third one", x.barter(1, 0), NONE);
+        CHECK.due("whatSold(0, 0, 0) of a third one", x.whatSold(0, 0, 0), 0);
+        CHECK.due("richest(0) of a third one", x.richest(0), 0);
     }
 
     private static void withoutAHouse() {

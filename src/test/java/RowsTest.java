@@ -131,6 +131,7 @@ public final class RowsTest {
         CHECK.due("drop(-1)", x.drop(-1), BAD);
         CHECK.due("drop(8)", x.drop(8), BAD);
         CHECK.due("row(5, 2, 3)", x.row(5, 2, 3), 3);
+        x.set(5, 0, 77);
         x.set(5, 2, 77);
         x.row(5, 2, 3);
         CHECK.same("a row made anew has none but 0", are(x, 5, 0, 0, 3), true);

@@ -149,6 +149,7 @@ public final class TextTest {
         x.sell(0, 1, 1);
         x.bind(0, 1);
         x.days(3);
+        CHECK.due("what is foretold ahead", x.ahead(0, 7, 0), 0);
         CHECK.due("acts ahead", x.count(6), 5);
         CHECK.due("sold ahead", x.count(5), 1);
         CHECK.due("house()", Check.read(x, "h7,2;l9,9,0;"), 1);

@@ -28,11 +28,9 @@ public final class SoupRights {
     private final Shelf shelf = new Shelf();
     private final Tape tape = new Tape();
     private final House now = new House();
-    /** What is only tried out: a text that may have a FAULT, days that are foretold. */
-    private final House draft = new House();
     private final House[] images = new House[IMAGES];
     private final Acts acts = new Acts();
-    private final Foresight foresight = new Foresight(now, draft);
+    private final Foresight foresight = new Foresight();
     private final Barter barters = new Barter();
     private final Asks asks = new Asks();
     private int latestFault;
@@ -106,13 +104,13 @@ public final class SoupRights {
     }
 
     public int house() {
-        tape.readInto(draft);
+        tape.readHouse();
         tape.length = 0;
         if (tape.faultNumber != 0) {
             latestFault = tape.faultNumber;
             return FAULTY - tape.spot;
         }
-        now.become(draft);
+        now.become(tape.told);
         acts.forget();
         return now.rights;
     }
@@ -236,30 +234,29 @@ public final class SoupRights {
         if (!now.hasHeir(heir) || !isWithin(n, 0, FAR_SIGHT) || !isWithin(what, 0, 1)) {
             return BAD;
         }
-        foresight.look(n);
-        return what == 0 ? draft.bowls[heir] : draft.hunger[heir];
+        House then = foresight.look(now, n);
+        return what == 0 ? then.bowls[heir] : then.hunger[heir];
     }
 
     public int whose(int right, int n) {
         if (!now.hasRight(right) || !isWithin(n, 0, FAR_SIGHT)) {
             return BAD;
         }
-        foresight.look(n);
-        return draft.owner[right];
+        return foresight.look(now, n).owner[right];
     }
 
     public int eats(int heir, int n) {
         if (!now.hasHeir(heir) || !isWithin(n, 0, FAR_SIGHT)) {
             return BAD;
         }
-        return foresight.mealsOf(heir, n);
+        return foresight.mealsOf(now, heir, n);
     }
 
     public int starves(int heir) {
         if (!now.hasHeir(heir)) {
             return BAD;
         }
-        return foresight.daysToStarving(heir);
+        return foresight.daysToStarving(now, heir);
     }
 
     public int richest(int n) {
@@ -269,8 +266,7 @@ public final class SoupRights {
         if (!isWithin(n, 0, FAR_SIGHT)) {
             return BAD;
         }
-        foresight.look(n);
-        return draft.whoHasMost();
+        return foresight.look(now, n).whoHasMost();
     }
 
     public int price(int right) {
@@ -284,7 +280,7 @@ public final class SoupRights {
         if (!now.hasRight(right) || !isWithin(n, 0, 30) || !isWithin(what, 0, 1)) {
             return BAD;
         }
-        return foresight.cheapest(right, n, what);
+        return foresight.cheapest(now, right, n, what);
     }
 
     public int sales(int what) {
@@ -334,7 +330,7 @@ public final class SoupRights {
         if (finding != 0) {
             return found(finding);
         }
-        return foundNothing(foresight.salesThatFit(shelf.items[row], i, what));
+        return foundNothing(foresight.salesThatFit(now, shelf.items[row], i, what));
     }
 
     public int who(int right, int row, int i, int n) {
@@ -345,7 +341,7 @@ public final class SoupRights {
         if (finding != 0) {
             return found(finding);
         }
-        return foundNothing(foresight.kindsThatFit(right, shelf.items[row], i, n));
+        return foundNothing(foresight.kindsThatFit(now, right, shelf.items[row], i, n));
     }
 
     public int claims() {
@@ -356,7 +352,7 @@ public final class SoupRights {
         if (!now.hasHeir(heir) || !now.hasHeir(other) || heir == other) {
             return BAD;
         }
-        return foresight.leastGift(heir, other);
+        return foresight.leastGift(now, heir, other);
     }
 
     public long prowl(int k, int p, int what) {
@@ -366,8 +362,8 @@ public final class SoupRights {
         if (!isWithin(k, 0, MOST_HEIRS) || !isWithin(p, 0, 10) || !isWithin(what, 0, 1)) {
             return BAD;
         }
-        long above = foresight.casesInWhichEnoughEat(k, p);
-        long below = foresight.allCases();
+        long above = foresight.casesInWhichEnoughEat(now, k, p);
+        long below = Foresight.allCases(now.heirs);
         long shared = greatestDivisor(above, below);
         return (what == 0 ? above : below) / shared;
     }
@@ -379,8 +375,8 @@ public final class SoupRights {
         if (!isWithin(n, 0, FAR_SIGHT) || !isWithin(seed, 1, 999999) || !isWithin(what, 0, 1)) {
             return BAD;
         }
-        int sold = foresight.drawYears(n, seed);
-        return what == 0 ? sold : draft.bowlsOfAll();
+        int sold = foresight.drawYears(now, n, seed);
+        return what == 0 ? sold : foresight.draft.bowlsOfAll();
     }
 
     public int image(int k) {
@@ -573,6 +569,8 @@ public final class SoupRights {
         int spot;
         /** Of the latest reading; 0: it had no FAULT. Behind one nothing more is read. */
         int faultNumber;
+        /** What was read; whole only if there was no FAULT. */
+        final House told = new House();
 
         void append(int letter) {
             if (length < MOST_BYTES) {
@@ -581,44 +579,42 @@ public final class SoupRights {
             }
         }
 
-        void readInto(House into) {
-            into.wipe();
+        void readHouse() {
+            told.wipe();
             spot = 0;
             faultNumber = 0;
-            readHeir(into);
+            readHeir();
             for (int i = 0; i < MOST_BYTES && faultNumber == 0 && next() == 'h'; i++) {
-                readHeir(into);
+                readHeir();
             }
-            readRight(into);
+            readRight();
             for (int i = 0; i < MOST_BYTES && faultNumber == 0 && spot < length; i++) {
-                readRight(into);
+                readRight();
             }
         }
 
-        private void readHeir(House into) {
-            boolean isRoom = into.heirs < MOST_HEIRS;
-            readLetter(next() == 'h', isRoom);
+        private void readHeir() {
+            readLetter(next() == 'h', told.heirs < MOST_HEIRS);
             int bowls = readNumber(0, 60);
             readSign(',');
             int hunger = readNumber(0, MOST_HUNGER);
             readSign(';');
             if (faultNumber == 0) {
-                into.addHeir(bowls, hunger);
+                told.addHeir(bowls, hunger);
             }
         }
 
-        private void readRight(House into) {
-            boolean isRoom = into.rights < MOST_RIGHTS;
+        private void readRight() {
             int sort = sortOf(next());
-            readLetter(sort != 0, isRoom);
+            readLetter(sort != 0, told.rights < MOST_RIGHTS);
             int value = readNumber(1, 20);
             readSign(',');
             int due = readNumber(0, 60);
             readSign(',');
-            int owner = readNumber(0, into.heirs - 1);
+            int owner = readNumber(0, told.heirs - 1);
             readSign(';');
             if (faultNumber == 0) {
-                into.addRight(sort, value, due, owner);
+                told.addRight(sort, value, due, owner);
             }
         }
 
@@ -695,6 +691,9 @@ public final class SoupRights {
 
     /** A HOUSE; without RIGHTS there is none. */
     private static final class House {
+        /** A note has what ACTS can change, and no more: BOWLS, HUNGER, OWNERS, then three numbers. */
+        static final int NOTE = 2 * MOST_HEIRS + MOST_RIGHTS + 3;
+
         int heirs;
         final int[] bowls = new int[MOST_HEIRS];
         final int[] hunger = new int[MOST_HEIRS];
@@ -729,6 +728,24 @@ public final class SoupRights {
             System.arraycopy(other.due, 0, due, 0, MOST_RIGHTS);
             System.arraycopy(other.owner, 0, owner, 0, MOST_RIGHTS);
             System.arraycopy(other.first, 0, first, 0, MOST_RIGHTS);
+        }
+
+        void writeNote(int[] note) {
+            System.arraycopy(bowls, 0, note, 0, MOST_HEIRS);
+            System.arraycopy(hunger, 0, note, MOST_HEIRS, MOST_HEIRS);
+            System.arraycopy(owner, 0, note, 2 * MOST_HEIRS, MOST_RIGHTS);
+            note[NOTE - 3] = bound;
+            note[NOTE - 2] = day;
+            note[NOTE - 1] = sold;
+        }
+
+        void goBackTo(int[] note) {
+            System.arraycopy(note, 0, bowls, 0, MOST_HEIRS);
+            System.arraycopy(note, MOST_HEIRS, hunger, 0, MOST_HEIRS);
+            System.arraycopy(note, 2 * MOST_HEIRS, owner, 0, MOST_RIGHTS);
+            bound = note[NOTE - 3];
+            day = note[NOTE - 2];
+            sold = note[NOTE - 1];
         }
 
         void addHeir(int itsBowls, int itsHunger) {
@@ -951,31 +968,25 @@ public final class SoupRights {
         }
     }
 
-    /** The HOUSE as it was ahead of each ACT that can be undone, in a ring. */
+    /** What each ACT that can be undone changed, as it was ahead of it, in a ring. */
     private static final class Acts {
-        final House[] before = new House[MOST_ACTS];
+        final int[][] notes = new int[MOST_ACTS][House.NOTE];
         int oldest;
         int size;
-
-        Acts() {
-            for (int i = 0; i < MOST_ACTS; i++) {
-                before[i] = new House();
-            }
-        }
 
         void keep(House house) {
             if (size == MOST_ACTS) {
                 oldest = (oldest + 1) % MOST_ACTS;
                 size--;
             }
-            before[(oldest + size) % MOST_ACTS].become(house);
+            house.writeNote(notes[(oldest + size) % MOST_ACTS]);
             size++;
         }
 
         void takeBack(House house) {
             if (size > 0) {
                 size--;
-                house.become(before[(oldest + size) % MOST_ACTS]);
+                house.goBackTo(notes[(oldest + size) % MOST_ACTS]);
             }
         }
 
@@ -990,23 +1001,18 @@ public final class SoupRights {
         static final int SUM_OF_CASES = 10;
         static final int DAYS_TO_PEACE = 10;
 
-        final House now;
-        final House draft;
+        final House draft = new House();
 
-        Foresight(House now, House draft) {
-            this.now = now;
-            this.draft = draft;
-        }
-
-        /** The draft becomes the HOUSE behind n DAYS. */
-        void look(int n) {
+        /** The HOUSE behind n DAYS, as the draft tells it until the next look. */
+        House look(House now, int n) {
             draft.become(now);
             for (int i = 0; i < n; i++) {
                 draft.passDay();
             }
+            return draft;
         }
 
-        int mealsOf(int heir, int n) {
+        int mealsOf(House now, int heir, int n) {
             int meals = 0;
             draft.become(now);
             for (int i = 0; i < n; i++) {
@@ -1015,7 +1021,7 @@ public final class SoupRights {
             return meals;
         }
 
-        int daysToStarving(int heir) {
+        int daysToStarving(House now, int heir) {
             draft.become(now);
             for (int n = 0; n <= FAR_SIGHT; n++) {
                 if (draft.hunger[heir] == MOST_HUNGER) {
@@ -1026,7 +1032,7 @@ public final class SoupRights {
             return NONE;
         }
 
-        int cheapest(int right, int n, int what) {
+        int cheapest(House now, int right, int n, int what) {
             draft.become(now);
             int when = 0;
             int least = draft.priceOf(right);
@@ -1041,11 +1047,11 @@ public final class SoupRights {
             return what == 0 ? when : least;
         }
 
-        int salesThatFit(int[] told, int i, int what) {
+        int salesThatFit(House now, int[] told, int i, int what) {
             int many = 0;
             for (int right = 0; right < now.rights; right++) {
                 for (int heir = 0; heir < now.heirs; heir++) {
-                    if (!fitsSale(right, heir, told, i)) {
+                    if (!fitsSale(now, right, heir, told, i)) {
                         continue;
                     }
                     if (what == 1) {
@@ -1057,7 +1063,7 @@ public final class SoupRights {
             return what == 0 ? many : NONE;
         }
 
-        private boolean fitsSale(int right, int heir, int[] told, int i) {
+        private boolean fitsSale(House now, int right, int heir, int[] told, int i) {
             // A buyer's BOWLS are never lost, so what he has left tells the one n there can be.
             int n = now.bowls[heir] - told[i + heir];
             if (n < 1 || !now.canBuy(right, heir, n)) {
@@ -1077,7 +1083,7 @@ public final class SoupRights {
             return true;
         }
 
-        int kindsThatFit(int right, int[] told, int i, int n) {
+        int kindsThatFit(House now, int right, int[] told, int i, int n) {
             int set = 0;
             for (int kind = NAME; kind <= PROXY; kind++) {
                 draft.become(now);
@@ -1099,7 +1105,7 @@ public final class SoupRights {
             return true;
         }
 
-        int leastGift(int heir, int other) {
+        int leastGift(House now, int heir, int other) {
             int most = Math.min(now.bowls[heir], 60);
             for (int n = 0; n <= most; n++) {
                 draft.become(now);
@@ -1115,7 +1121,7 @@ public final class SoupRights {
         }
 
         /** Of allCases(): in how many k HEIRS, or more, eat. */
-        long casesInWhichEnoughEat(int k, int p) {
+        long casesInWhichEnoughEat(House now, int k, int p) {
             long cases = 0;
             for (int visited = 0; visited < 1 << now.heirs; visited++) {
                 draft.become(now);
@@ -1134,16 +1140,16 @@ public final class SoupRights {
             return cases;
         }
 
-        long allCases() {
+        static long allCases(int heirs) {
             long cases = 1;
-            for (int heir = 0; heir < now.heirs; heir++) {
+            for (int heir = 0; heir < heirs; heir++) {
                 cases *= SUM_OF_CASES;
             }
             return cases;
         }
 
         /** The draft becomes the HOUSE behind n drawn DAYS: how many were sold in them. */
-        int drawYears(int n, int seed) {
+        int drawYears(House now, int n, int seed) {
             draft.become(now);
             if (!draft.stands() || draft.heirs == 0) {
                 return 0;

@@ -362,6 +362,7 @@ public final class ForetoldTest {
         CHECK.due("drawn(1, 2, 0)", x.drawn(1, 2, 0), 0);
         CHECK.due("drawn(1, 2, 1)", x.drawn(1, 2, 1), 8);
         CHECK.due("drawn(0, 999999, 1)", x.drawn(0, 999999, 1), 9);
+        CHECK.due("drawn of one heir", Check.house("h5,0;n1,60,0;").drawn(3, 7, 1), 2);
         CHECK.due("drawn(1, 0, 0)", x.drawn(1, 0, 0), BAD);
         CHECK.due("drawn(1, 1000000, 0)", x.drawn(1, 1000000, 0), BAD);
         CHECK.due("drawn(-1, 1, 0)", x.drawn(-1, 1, 0), BAD);

@@ -4,12 +4,18 @@ import java.util.Objects;
 final class Check {
     private int asked;
     private int wrong;
+    private String sentence = "";
+
+    /** The promise, and its sentence, that the answers due from here on hold. */
+    void of(String promiseAndSentence) {
+        sentence = promiseAndSentence + ": ";
+    }
 
     void due(String call, long got, long want) {
         asked++;
         if (got != want) {
             wrong++;
-            System.out.println(call + " answered " + got + ", due is " + want);
+            System.out.println(sentence + call + " answered " + got + ", due is " + want);
         }
     }
 
@@ -17,8 +23,19 @@ final class Check {
         asked++;
         if (!Objects.equals(got, want)) {
             wrong++;
-            System.out.println(what + ": " + got + ", due is " + want);
+            System.out.println(sentence + what + ": " + differing(got, want) + ", due is " + differing(want, got));
         }
+    }
+
+    /** Of two long texts, the part from shortly ahead of where they differ. */
+    private static String differing(Object one, Object other) {
+        String a = String.valueOf(one);
+        String b = String.valueOf(other);
+        int i = 0;
+        while (i < a.length() && i < b.length() && a.charAt(i) == b.charAt(i)) {
+            i++;
+        }
+        return a.length() < 200 ? a : ".." + a.substring(Math.max(i - 60, 0), Math.min(i + 40, a.length())) + "..";
     }
 
     int wrong() {
@@ -75,5 +92,53 @@ final class Check {
             all.append(x.trace(i)).append(' ');
         }
         return all.toString();
+    }
+
+    /**
+     * All that an object holds, seen or hidden: ACTS, IMAGES, the tape, ROWS.
+     * It is of no use any more behind this.
+     */
+    static String bare(SoupRights x) {
+        StringBuilder all = new StringBuilder(seen(x)).append(" status ").append(x.status());
+        for (int i = 0; i < 26; i++) {
+            all.append("\nundo ").append(x.undo()).append(' ').append(seen(x));
+        }
+        for (int k = 0; k < 2; k++) {
+            all.append("\nimage ").append(x.restore(k)).append(' ').append(seen(x));
+        }
+        // what the tape tells is disclosed by how it goes on: a place of a FAULT, or a HOUSE
+        all.append("\ntape ").append(x.house()).append(' ').append(seen(x));
+        for (int row = 0; row < 8; row++) {
+            all.append("\nrow ").append(row).append(": ").append(items(x, row));
+        }
+        return all.toString();
+    }
+
+    /** The size, the ITEMS that can be seen (0 to 59, else '?') and the LANE of a ROW; the house is lost. */
+    static String items(SoupRights x, int row) {
+        StringBuilder all = new StringBuilder();
+        int size = 0;
+        while (x.copy(row, size, row, size, 1) == 1) {
+            size++;
+        }
+        all.append(x.copy(row, 0, row, 0, 0)).append(" of ").append(size).append(':');
+        for (int i = 0; i < size; i++) {
+            int item = -1;
+            for (int v = 0; v < 60 && item < 0; v++) {
+                item = is(x, row, i, v) ? v : -1;
+            }
+            all.append(' ').append(item < 0 ? "?" : "" + item);
+        }
+        // of this number each LANE keeps something else
+        return all.append(" lane ").append(x.set(row, 0, 65536 + 200)).toString();
+    }
+
+    /**
+     * Whether an ITEM is v, from 0 to 59; the house is lost. No call tells an
+     * ITEM, but who() says whether it is what an HEIR has behind a DAY.
+     */
+    static boolean is(SoupRights x, int row, int i, int v) {
+        read(x, "h" + (v + 1) + ",0;n1,60,0;");
+        return x.who(0, row, i, 1) >= 0 && (x.who(0, row, i, 1) & 2) != 0;
     }
 }

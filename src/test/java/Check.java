@@ -118,7 +118,7 @@ final class Check {
     static String items(SoupRights x, int row) {
         StringBuilder all = new StringBuilder();
         int size = 0;
-        while (x.copy(row, size, row, size, 1) == 1) {
+        while (size < 41 && x.copy(row, size, row, size, 1) == 1) {
             size++;
         }
         all.append(x.copy(row, 0, row, 0, 0)).append(" of ").append(size).append(':');
